@@ -153,7 +153,7 @@ public final class SeenInOrderOfAge {
             return refuse(OTHER);
         }
         Looker one = scene.all[held];
-        return kind == LOOKER ? one.age : scene.takes(one, scene.things());
+        return kind == LOOKER ? one.age : scene.takes(one, scene.filled);
     }
 
     // ---- the window and who looks ----
@@ -322,7 +322,7 @@ public final class SeenInOrderOfAge {
     }
 
     public int places() {
-        return scene.things();
+        return scene.filled;
     }
 
     // ---- an evening, if a set comes ----
@@ -331,7 +331,7 @@ public final class SeenInOrderOfAge {
         if (!isSet(set)) {
             return refuse(BAD);
         }
-        look.run(scene, set);
+        look.run(scene, set, scene.filled);
         return look.rest;
     }
 
@@ -339,7 +339,7 @@ public final class SeenInOrderOfAge {
         if (!isSet(set) || !isLooker(looker)) {
             return refuse(BAD);
         }
-        look.run(scene, set);
+        look.run(scene, set, scene.filled);
         return look.takenBy[looker];
     }
 
@@ -347,7 +347,7 @@ public final class SeenInOrderOfAge {
         if (!isSet(set) || (what != 0 && what != 1)) {
             return refuse(BAD);
         }
-        look.run(scene, set);
+        look.run(scene, set, scene.filled);
         return Integer.bitCount(what == 0 ? look.gladSet : look.emptySet);
     }
 
@@ -363,7 +363,7 @@ public final class SeenInOrderOfAge {
         if (!isSet(set)) {
             return refuse(BAD);
         }
-        look.run(scene, set);
+        look.run(scene, set, scene.filled);
         return look.gladSet;
     }
 
@@ -371,7 +371,7 @@ public final class SeenInOrderOfAge {
         if (!isSet(set)) {
             return refuse(BAD);
         }
-        look.run(scene, set);
+        look.run(scene, set, scene.filled);
         return look.emptySet;
     }
 
@@ -379,7 +379,7 @@ public final class SeenInOrderOfAge {
         if (!isLooker(looker)) {
             return refuse(BAD);
         }
-        look.run(scene, scene.everybody() & ~(1 << looker));
+        look.run(scene, scene.everybody() & ~(1 << looker), scene.filled);
         return Integer.bitCount(look.gladSet);
     }
 
@@ -387,8 +387,8 @@ public final class SeenInOrderOfAge {
         if (!isSet(set) || !isSet(then)) {
             return refuse(BAD);
         }
-        look.run(scene, set);
-        look.runFrom(scene, then, look.rest);
+        look.run(scene, set, scene.filled);
+        look.run(scene, then, look.rest);
         return look.rest;
     }
 
@@ -396,7 +396,7 @@ public final class SeenInOrderOfAge {
         if (!isSet(set)) {
             return refuse(BAD);
         }
-        look.run(scene, set);
+        look.run(scene, set, scene.filled);
         return scene.countUnlike(look.rest);
     }
 
@@ -539,7 +539,7 @@ public final class SeenInOrderOfAge {
     // ---- in truth ----
 
     public int evening(int set) {
-        return isSet(set) ? look.inTruth(scene, set) : refuse(BAD);
+        return isSet(set) ? look.runInTruth(scene, set) : refuse(BAD);
     }
 
     public int christmases(int n) {
@@ -548,7 +548,7 @@ public final class SeenInOrderOfAge {
         }
         int things = 0;
         for (int i = 0; i < n; i++) {
-            things += look.inTruth(scene, scene.drawWhoCome());
+            things += look.runInTruth(scene, scene.drawWhoCome());
             scene.drawThings();
         }
         return things;
@@ -587,7 +587,7 @@ public final class SeenInOrderOfAge {
             case 0:
                 return scene.count;
             case 1:
-                return Integer.bitCount(scene.things());
+                return Integer.bitCount(scene.filled);
             case 2:
                 return scene.countHad();
             case 3:
@@ -746,6 +746,7 @@ public final class SeenInOrderOfAge {
         private final int[] placesWith = new int[SORT_COUNT];
         private final Looker[] all = new Looker[LOOKER_ROOM];
         private final int[] byAge = new int[LOOKER_ROOM];
+        private int filled;
         private int count;
         private int evenings;
         private int drawSeed;
@@ -765,6 +766,7 @@ public final class SeenInOrderOfAge {
             for (int x = 0; x < other.count; x++) {
                 all[x].become(other.all[x]);
             }
+            filled = other.filled;
             count = other.count;
             evenings = other.evenings;
             drawSeed = other.drawSeed;
@@ -775,15 +777,12 @@ public final class SeenInOrderOfAge {
             if (isSort(was)) {
                 placesWith[was] &= ~(1 << place);
             }
+            filled &= ~(1 << place);
             if (isSort(sort)) {
                 placesWith[sort] |= 1 << place;
+                filled |= 1 << place;
             }
             sortIn[place] = sort;
-        }
-
-        /** The places that hold a thing, as bits. */
-        private int things() {
-            return placesWithAny((1 << SORT_COUNT) - 1);
         }
 
         private int placesWithAny(int sortBits) {
@@ -846,72 +845,57 @@ public final class SeenInOrderOfAge {
 
         /** The places that one takes of those that still hold a thing. */
         private int takes(Looker one, int there) {
+            int best = placesWith[one.a] & there;
+            int wanted = placesWithAny(one.wanted()) & there;
             switch (one.kind) {
                 case CHILD:
-                    return takesAsChild(one, there);
+                    return takesTwice(best, wanted);
                 case GREEDY:
-                    return takesAsGreedy(one, there);
+                    return best != 0 ? best : takesTwice(best, wanted);
                 case OLD:
-                    return takesAsOld(one, there);
+                    return Integer.highestOneBit(wanted);
                 case GIVER:
-                    return takesAsGiver(one, there);
+                    return isOnly(Integer.highestOneBit(wanted), there) ? 0 : Integer.highestOneBit(wanted);
                 case SHY:
-                    return takesAsShy(one, there);
+                    return Integer.lowestOneBit(placesWithMost(one.wanted(), there));
                 default:
-                    return takesAsLooker(one, there);
+                    return Integer.lowestOneBit(best != 0 ? best : wanted);
             }
         }
 
-        /** The first place that one takes: a child and one who is greedy begin as a looker does. */
-        private int takesFirst(Looker one, int there) {
-            if (one.kind == CHILD || one.kind == GREEDY) {
-                return takesAsLooker(one, there);
-            }
-            return takes(one, there);
+        private static int takesTwice(int best, int wanted) {
+            int once = Integer.lowestOneBit(best != 0 ? best : wanted);
+            int bestThen = best & ~once;
+            return once | Integer.lowestOneBit(bestThen != 0 ? bestThen : wanted & ~once);
         }
 
-        private int takesAsLooker(Looker one, int there) {
-            int best = placesWith[one.a] & there;
-            if (best == 0) {
-                best = placesWithAny(one.wanted()) & there;
-            }
-            return Integer.lowestOneBit(best);
-        }
-
-        private int takesAsChild(Looker one, int there) {
-            int once = takesAsLooker(one, there);
-            return once | takesAsLooker(one, there & ~once);
-        }
-
-        private int takesAsGreedy(Looker one, int there) {
-            int best = placesWith[one.a] & there;
-            return best != 0 ? best : takesAsChild(one, there);
-        }
-
-        private int takesAsOld(Looker one, int there) {
-            return Integer.highestOneBit(placesWithAny(one.wanted()) & there);
-        }
-
-        private int takesAsGiver(Looker one, int there) {
-            int last = takesAsOld(one, there);
+        /** Whether no other place has a thing of the sort that is in this one. */
+        private boolean isOnly(int placeBit, int there) {
             for (int sort = 0; sort < SORT_COUNT; sort++) {
-                if ((placesWith[sort] & there) == last) {
-                    return 0;
+                if ((placesWith[sort] & there) == placeBit) {
+                    return true;
                 }
             }
-            return last;
+            return false;
         }
 
-        private int takesAsShy(Looker one, int there) {
-            int wanted = one.wanted();
+        /** Of some sorts the places with that of which most things are there, of several the least. */
+        private int placesWithMost(int sortBits, int there) {
             int most = 0;
             for (int sort = 0; sort < SORT_COUNT; sort++) {
                 int those = placesWith[sort] & there;
-                if ((wanted >> sort & 1) != 0 && Integer.bitCount(those) > Integer.bitCount(most)) {
+                if ((sortBits >> sort & 1) != 0 && Integer.bitCount(those) > Integer.bitCount(most)) {
                     most = those;
                 }
             }
-            return Integer.lowestOneBit(most);
+            return most;
+        }
+
+        /** Which of the places that one takes is his first: who takes his a, takes that first. */
+        private int firstTaken(Looker one, int taken) {
+            int best = placesWith[one.a] & taken;
+            int first = Integer.lowestOneBit(best != 0 ? best : taken);
+            return first == 0 ? NONE : Integer.numberOfTrailingZeros(first);
         }
 
         private int countUnlike(int there) {
@@ -1015,18 +999,17 @@ public final class SeenInOrderOfAge {
         /** The first of n told pairs that is wrong; NONE, if none is. */
         private int wrongPair(Shelf told, int n) {
             int set = toldLookers(told, n);
-            int there = things();
+            int there = filled;
             for (int pair = 0; pair < n; pair++) {
                 int x = inOrder(set, pair);
                 if (x == NONE || told.elementAt(2 * pair) != x) {
                     return pair;
                 }
-                int first = takesFirst(all[x], there);
-                int place = first == 0 ? NONE : Integer.numberOfTrailingZeros(first);
-                if (told.elementAt(2 * pair + 1) != place) {
+                int taken = takes(all[x], there);
+                if (told.elementAt(2 * pair + 1) != firstTaken(all[x], taken)) {
                     return pair;
                 }
-                there &= ~takes(all[x], there);
+                there &= ~taken;
             }
             return NONE;
         }
@@ -1070,48 +1053,34 @@ public final class SeenInOrderOfAge {
     /** What comes of it, if a set looks through the window; in truth only where it says so. */
     private static final class Evening {
         private final int[] takenBy = new int[LOOKER_ROOM];
-        private final int[] firstTaken = new int[LOOKER_ROOM];
         private int rest;
         private int gladSet;
         private int emptySet;
 
-        private void run(Scene scene, int set) {
-            runFrom(scene, set, scene.things());
-        }
-
-        private void runFrom(Scene scene, int set, int there) {
+        private void run(Scene scene, int set, int there) {
             rest = there;
             gladSet = 0;
             emptySet = 0;
             for (int at = 0; at < scene.count; at++) {
                 int x = scene.byAge[at];
-                takenBy[x] = 0;
-                firstTaken[x] = 0;
-                if ((set >> x & 1) != 0) {
-                    letLook(scene, x);
+                Looker one = scene.all[x];
+                boolean isIn = (set >> x & 1) != 0;
+                int takes = isIn ? scene.takes(one, rest) : 0;
+                takenBy[x] = takes;
+                rest &= ~takes;
+                if ((takes & scene.placesWith[one.a]) != 0) {
+                    gladSet |= 1 << x;
+                }
+                if (isIn && takes == 0) {
+                    emptySet |= 1 << x;
                 }
             }
         }
 
-        private void letLook(Scene scene, int x) {
-            Looker one = scene.all[x];
-            int takes = scene.takes(one, rest);
-            takenBy[x] = takes;
-            if (takes == 0) {
-                emptySet |= 1 << x;
-                return;
-            }
-            firstTaken[x] = scene.takesFirst(one, rest);
-            if ((takes & scene.placesWith[one.a]) != 0) {
-                gladSet |= 1 << x;
-            }
-            rest &= ~takes;
-        }
-
         /** How many things were taken in truth. */
-        private int inTruth(Scene scene, int set) {
-            int there = scene.things();
-            runFrom(scene, set, there);
+        private int runInTruth(Scene scene, int set) {
+            int there = scene.filled;
+            run(scene, set, there);
             for (int x = 0; x < scene.count; x++) {
                 handOver(scene, x);
             }
@@ -1127,11 +1096,12 @@ public final class SeenInOrderOfAge {
 
         private void handOver(Scene scene, int x) {
             Looker one = scene.all[x];
+            int first = scene.firstTaken(one, takenBy[x]);
             for (int place = 0; place < PLACE_COUNT; place++) {
                 if ((takenBy[x] >> place & 1) != 0) {
                     one.gain(scene.sortIn[place]);
                 }
-                if ((firstTaken[x] >> place & 1) != 0) {
+                if (place == first) {
                     one.shine = scene.sortIn[place];
                 }
             }
@@ -1154,7 +1124,7 @@ public final class SeenInOrderOfAge {
             for (int set = 0; set <= all; set++) {
                 boolean isFewer = number == NONE || Integer.bitCount(set) < number;
                 if ((set >> looker & 1) == 0 && isFewer) {
-                    look.run(scene, all & ~set);
+                    look.run(scene, all & ~set, scene.filled);
                     if ((look.gladSet >> looker & 1) != 0) {
                         number = Integer.bitCount(set);
                         found = set;
@@ -1170,7 +1140,7 @@ public final class SeenInOrderOfAge {
             found = NONE;
             for (int set = 0; set <= all; set++) {
                 if (Integer.bitCount(set) == k) {
-                    look.run(scene, set);
+                    look.run(scene, set, scene.filled);
                     int glad = Integer.bitCount(look.gladSet);
                     if (glad > number) {
                         number = glad;
@@ -1188,7 +1158,7 @@ public final class SeenInOrderOfAge {
             inAll = NONE;
             inSome = 0;
             for (int set = 0; set <= all; set++) {
-                look.run(scene, set);
+                look.run(scene, set, scene.filled);
                 if (look.rest == places) {
                     found = number == 0 ? set : found;
                     inAll = number == 0 ? set : inAll & set;
@@ -1227,7 +1197,7 @@ public final class SeenInOrderOfAge {
             int all = scene.everybody();
             long ways = 0;
             for (int set = 0; set <= all; set++) {
-                look.run(scene, set);
+                look.run(scene, set, scene.filled);
                 if ((look.rest >> place & 1) != 0) {
                     ways += waysOf(scene, set, NONE);
                 }
@@ -1240,7 +1210,7 @@ public final class SeenInOrderOfAge {
             long ways = 0;
             for (int set = 0; set <= all; set++) {
                 if ((set >> looker & 1) != 0) {
-                    look.run(scene, set);
+                    look.run(scene, set, scene.filled);
                     if ((look.gladSet >> looker & 1) != 0) {
                         ways += waysOf(scene, set, looker);
                     }
@@ -1253,7 +1223,7 @@ public final class SeenInOrderOfAge {
             int all = scene.everybody();
             long ways = 0;
             for (int set = 0; set <= all; set++) {
-                look.run(scene, set);
+                look.run(scene, set, scene.filled);
                 if (Integer.bitCount(look.gladSet) >= m) {
                     ways += waysOf(scene, set, NONE);
                 }
@@ -1265,7 +1235,7 @@ public final class SeenInOrderOfAge {
             int all = scene.everybody();
             long ways = 0;
             for (int set = 0; set <= all; set++) {
-                look.run(scene, set);
+                look.run(scene, set, scene.filled);
                 ways += Integer.bitCount(look.rest) * waysOf(scene, set, NONE);
             }
             return share(1000L, ways, scene.count);
@@ -1314,7 +1284,7 @@ public final class SeenInOrderOfAge {
             int rows = 1 << 3 * number;
             for (int row = 0; row < rows; row++) {
                 if (putRow(row, sortBits, number)) {
-                    look.run(trial, set);
+                    look.run(trial, set, trial.filled);
                     if (look.gladSet == set) {
                         return true;
                     }
@@ -1344,7 +1314,7 @@ public final class SeenInOrderOfAge {
             int bits = 0;
             for (int kind = 0; kind < KIND_COUNT; kind++) {
                 trial.all[looker].kind = kind;
-                look.run(trial, set);
+                look.run(trial, set, trial.filled);
                 if (look.takenBy[looker] == places) {
                     bits |= 1 << kind;
                 }
@@ -1357,7 +1327,7 @@ public final class SeenInOrderOfAge {
             int bits = 0;
             for (int sort = 0; sort < SORT_COUNT; sort++) {
                 trial.all[looker].a = sort;
-                look.run(trial, set);
+                look.run(trial, set, trial.filled);
                 if (look.takenBy[looker] == places) {
                     bits |= 1 << sort;
                 }
@@ -1369,7 +1339,7 @@ public final class SeenInOrderOfAge {
             trial.become(scene);
             trial.putAge(looker, scene.all[other].age);
             trial.putAge(other, scene.all[looker].age);
-            look.run(trial, trial.everybody());
+            look.run(trial, trial.everybody(), trial.filled);
             return Integer.bitCount(look.gladSet);
         }
 
@@ -1392,7 +1362,7 @@ public final class SeenInOrderOfAge {
             trial.become(scene);
             for (int age = GREATEST_AGE; age >= 0; age--) {
                 trial.putAge(looker, age);
-                look.run(trial, trial.everybody());
+                look.run(trial, trial.everybody(), trial.filled);
                 if ((look.gladSet >> looker & 1) != 0) {
                     return age;
                 }
