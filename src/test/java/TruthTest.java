@@ -126,32 +126,25 @@ public final class TruthTest {
         SeenInOrderOfAge x = new SeenInOrderOfAge();
         Due.is(47, "nobody", x.swap(), 0);
         brings(x, 1, "", 1);
-        Due.is(47, "who brings what he lacks gets it all the same", x.swap(), 0);
+        Due.is(47, "who keeps his own", x.swap(), 0);
         Due.is(47, "one less of none, then one more", x.lookerOf(0, 11), 1);
-        fillUp(x, 1, 1);
+        fillUp(x, 0, 1);
         Due.is(47, "full", x.lookerOf(0, 11), 99);
-        Due.is(47, "swap", x.swap(), 0);
+        Due.is(47, "who keeps his own again", x.swap(), 0);
         Due.is(47, "still full", x.lookerOf(0, 11), 99);
-        brings(x, 1, "", 1);
+        brings(x, 0, "", 1);
         x.tell(0, 2, 0);
-        x.tell(1, 2, 1);
-        x.likes(1, 0, true);
-        x.tell(1, 2, 1);
-        SeenInOrderOfAge y = new SeenInOrderOfAge();
-        brings(y, 1, "", 0);
-        brings(y, 0, "", 1);
-        fillUp(y, 0, 1);
-        y.tell(0, 2, 0);
-        Due.is(47, "swap of one who is full", y.swap(), 2);
-        Due.is(47, "99 at most", y.lookerOf(0, 11), 99);
+        Due.is(47, "who is full gets one more", x.swap(), 2);
+        Due.is(47, "99 at most", x.lookerOf(0, 11), 99);
+        Due.is(47, "0 at least", x.lookerOf(1, 11), 0);
+        Due.is(47, "what the other got", x.lookerOf(1, 10), 1);
     }
 
-    /** A looker takes his a, until he has 99 and more. */
+    /** A looker takes his a, until he would have more than 99. */
     private static void fillUp(SeenInOrderOfAge x, int looker, int sort) {
-        int number = looker == 1 ? 0 : looker;
         for (int i = 0; i < 100; i++) {
             x.place(0, sort);
-            x.evening(1 << number);
+            x.evening(1 << looker);
         }
     }
 
