@@ -686,10 +686,6 @@ public final class SeenInOrderOfAge {
         private int comes;
         private int shine;
 
-        private Looker() {
-            shine = NONE;
-        }
-
         private void begin(int newKind, int newA, int newAge) {
             kind = newKind;
             a = newA;

@@ -101,6 +101,7 @@ public final class EveningTest {
         }
         Due.is(21, "order of some", x.order(0b01001101, 3), 3);
         Due.is(21, "order of some, first", x.order(0b01001101, 0), 0);
+        Due.is(21, "order of one", x.order(0b1000, 0), 3);
         Due.refused(21, "no such i", x, () -> x.order(0b01001101, 4), Due.BAD);
         Due.refused(21, "i -1", x, () -> x.order(255, -1), Due.BAD);
         Due.refused(21, "nobody", x, () -> x.order(0, 0), Due.BAD);
@@ -137,8 +138,21 @@ public final class EveningTest {
         Due.is(20, "empty then", x.glad(7, 1), 1);
         Due.is(36, "who is empty then", x.empty(7), 0b010);
         Due.is(36, "nobody is empty in no set", x.empty(0), 0);
+        x.place(2, Due.NONE);
+        x.tell(1, 1, 0);
+        x.place(0, Due.NONE);
+        x.place(1, Due.NONE);
+        Due.is(20, "two are empty", x.glad(7, 1), 2);
+        Due.is(36, "both of them", x.empty(7), 0b110);
+        x.place(0, 1);
+        x.place(1, 1);
+        x.tell(1, 1, 8);
         Due.is(37, "without 2", x.without(2), 2);
         Due.is(37, "without 0", x.without(0), 1);
+        x.place(2, 0);
+        Due.looker(x, Due.LOOKER, 0, 1, "");
+        Due.is(37, "without 0, and 3 is glad", x.without(0), 2);
+        Due.is(37, "without 3", x.without(3), 2);
         Due.is(34, "places", x.places(), 0b11111);
         x.place(11, 0);
         x.place(0, Due.NONE);
@@ -195,6 +209,7 @@ public final class EveningTest {
         Due.is(31, "who like 3", x.sorts(3, 1), 3);
         Due.is(31, "who like 1", x.sorts(1, 1), 2);
         Due.is(31, "who like 7", x.sorts(7, 1), 0);
+        Due.is(31, "who like 0", x.sorts(0, 1), 0);
         Due.is(31, "whose a is 3", x.sorts(3, 2), 2);
         Due.is(31, "whose a is 1", x.sorts(1, 2), 1);
         for (int bad : new int[] {-1, 8}) {
@@ -253,6 +268,11 @@ public final class EveningTest {
         Due.is(45, "all", judge(x, 2, 0, 1, 2, 0, 4), Due.NONE);
         Due.is(45, "1 and 0", judge(x, 1, 0, 0, 4), Due.NONE);
         Due.is(45, "nothing told", judge(x), Due.NONE);
+        x.place(4, 1);
+        Due.looker(x, Due.LOOKER, 1, 90, "");
+        Due.is(45, "all that was taken is gone", judge(x, 2, 0, 1, 4, 0, -1, 3, -1), Due.NONE);
+        x.place(4, 4);
+        x.tell(3, 1, 99);
         x.likes(1, 0, false);
         Due.is(45, "1 takes nothing", judge(x, 2, 0, 1, -1, 0, 4), Due.NONE);
         x.place(4, 1);

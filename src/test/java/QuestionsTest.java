@@ -99,6 +99,12 @@ public final class QuestionsTest {
         Due.is(24, "one, ", x.setOut(3, 0), 1);
         Due.is(24, "one more, ", x.setOut(3, 1), 1);
         Due.is(24, "and his a", x.setOut(3, 2), 3);
+        x.likes(0, 0, true);
+        x.place(1, 7);
+        Due.looker(x, Due.LOOKER, 0, 99, "");
+        Due.is(24, "of sorts that are an a of theirs", x.setOut(3, 0), 1);
+        x.place(1, 0);
+        x.likes(0, 0, false);
         x.likes(0, 1, false);
         Due.is(24, "two, if he likes it not", x.setOut(3, -1), 2);
         Due.is(24, "one", x.setOut(3, 0), 1);
@@ -183,6 +189,9 @@ public final class QuestionsTest {
             Due.refused(26, "kinds " + b[0] + " " + b[1] + " " + b[2] + " " + b[3], x, () -> x.kinds(b[0], b[1], b[2], b[3]), Due.BAD);
         }
         Due.is(26, "places without a thing may be told", x.kinds(3, 0, 4095, 0), 0);
+        x.looker(0, 0, 0);
+        x.looker(0, 0, 0);
+        Due.refused(26, "3 comes, 0 not", x, () -> x.kinds(8, 0, 0, 0), Due.BAD);
     }
 
     /** Two lookers who both want sort 1, of which there are two, and one who takes what is last. */
@@ -210,6 +219,20 @@ public final class QuestionsTest {
         Due.is(27, "all come", chances(12, 12, 12).odds(3), 0);
         Due.is(27, "as at first", chances().odds(0), 250000);
         Due.is(27, "no lookers", Due.window("1").odds(0), 1000000);
+        SeenInOrderOfAge four = fourByChance();
+        for (int i = 0; i < 4; i++) {
+            Due.is(27, "of four, " + i, four.odds(i), new int[] {916666, 750000, 416666, 83333}[i]);
+        }
+    }
+
+    /** Four lookers by different chances, each of whom takes a thing that no other one wants. */
+    private static SeenInOrderOfAge fourByChance() {
+        SeenInOrderOfAge x = Due.window("0123");
+        for (int i = 0; i < 4; i++) {
+            x.looker(Due.LOOKER, i, 10);
+            x.tell(i, 0, new int[] {1, 3, 7, 11}[i]);
+        }
+        return x;
     }
 
     private static void likely() {
@@ -220,6 +243,12 @@ public final class QuestionsTest {
         Due.is(28, "1, whether he comes or not", chances(4, 0, 1).likely(1), 972222);
         Due.is(28, "1, if the others come", chances(12, 0, 12).likely(1), 0);
         Due.is(28, "one alone", chances(12, 0, 0).likely(0), 1000000);
+        SeenInOrderOfAge four = fourByChance();
+        four.looker(Due.LOOKER, 0, 50);
+        Due.is(28, "behind one of four", four.likely(4), 916666);
+        Due.is(28, "one of four", four.likely(3), 1000000);
+        four.tell(3, 0, 0);
+        Due.is(28, "one of four who never comes", four.likely(3), 1000000);
         Due.refused(28, "3", x, () -> x.likely(3), Due.BAD);
         Due.refused(28, "-1", x, () -> x.likely(-1), Due.BAD);
     }

@@ -57,6 +57,8 @@ public final class TruthTest {
         x.likes(2, 4, true);
         // 3 wishes for 2's, the first who brings a 3
         gets(x, 4, 1, 0, 4, 3, 3);
+        x.tell(0, 2, Due.NONE);
+        Due.is(44, "swapped, if 0 brings nothing", x.swapped(), 2);
         SeenInOrderOfAge first = new SeenInOrderOfAge();
         brings(first, 3, "", 2);
         brings(first, 2, "", 3);
@@ -169,9 +171,15 @@ public final class TruthTest {
         Due.is(46, "the child again", x.evening(4), 1);
         Due.is(46, "who shines of another sort", x.lookerOf(2, 5), 1);
         Due.is(46, "and has two", x.lookerOf(2, 11), 2);
-        Due.refused(46, "set 8", x, () -> x.evening(8), Due.BAD);
+        x.looker(Due.LOOKER, 7, 1);
+        Due.read(x, "place 0 5; place 3 7; place 6 5");
+        Due.is(46, "the evening of another", x.evening(8), 1);
+        Due.is(46, "has only what he took", x.lookerOf(3, 15), 0);
+        Due.is(46, "that he has", x.lookerOf(3, 17), 1);
+        Due.is(46, "the rest is there", x.places(), 0b1000101);
+        Due.refused(46, "set 16", x, () -> x.evening(16), Due.BAD);
         Due.refused(46, "set -1", x, () -> x.evening(-1), Due.BAD);
-        Due.is(46, "refused, not held", x.status(3), 3);
+        Due.is(46, "refused, not held", x.status(3), 4);
     }
 
     private static void eveningAtMost() {
@@ -241,6 +249,24 @@ public final class TruthTest {
         z.looker(Due.GREEDY, 3, 3);
         Due.is(48, "forty in all", z.christmases(40), things);
         Due.is(48, "as many as he has", z.lookerOf(0, 13), things);
+        never();
+    }
+
+    /** Draws of 0 and of 11 are among those of so many Christmases. */
+    private static void never() {
+        SeenInOrderOfAge x = new SeenInOrderOfAge();
+        for (int i = 0; i < 8; i++) {
+            x.looker(Due.GREEDY, i, 5);
+            x.tell(i, 0, i % 3 == 0 ? 0 : 12);
+        }
+        int things = x.christmases(40);
+        for (int i = 0; i < 8; i++) {
+            Due.is(48, i + " comes never or always", x.lookerOf(i, 10 + i) == 0 ? 1 : 0, i % 3 == 0 ? 1 : 0);
+        }
+        Due.is(48, "all who come have all that was taken", x.status(2), Math.min(things, x.status(2)));
+        int kept = x.sorts(0, 0) + x.sorts(3, 0) + x.sorts(6, 0);
+        x.christmases(1);
+        Due.is(48, "what nobody wants who comes is left", x.sorts(0, 0) + x.sorts(3, 0) + x.sorts(6, 0) >= kept ? 1 : 0, 1);
     }
 
     private static void images() {
@@ -254,6 +280,8 @@ public final class TruthTest {
         Due.is(50, "image", x.image(), 1);
         for (int i = 0; i < 2; i++) {
             Due.read(x, "place 7 7;looker 4 4 44;likes 0 5;comes 1 11;shine 0 6;clear 1");
+            x.place(2, 0);
+            x.evening(2);
             x.evening(7);
             x.seed(-3);
             x.tell(0, 1, 77);
@@ -312,6 +340,23 @@ public final class TruthTest {
         y.tell(0, 1, 9);
         y.back();
         Due.is(51, "who came then", y.lookerOf(0, 2), 5);
+        newAgain();
+    }
+
+    /** Of one who is gone with the image nothing clings to the next of his number. */
+    private static void newAgain() {
+        SeenInOrderOfAge x = Due.window("4");
+        x.image();
+        Due.looker(x, Due.CHILD, 4, 9, "12");
+        x.tell(0, 0, 1);
+        x.evening(1);
+        x.back();
+        Due.is(51, "the next of his number", x.looker(Due.OLD, 5, 1), 0);
+        int[] want = {2, 5, 1, 0, 6, Due.NONE};
+        for (int what = 0; what < 6; what++) {
+            Due.is(51, "of the next, " + what, x.lookerOf(0, what), want[what]);
+        }
+        Due.is(51, "the next has nothing", x.lookerOf(0, 14), 0);
     }
 
     private static void status() {

@@ -32,6 +32,9 @@ public final class WindowTest {
         Due.refused(16, "sortAt 12", x, () -> x.sortAt(12), Due.BAD);
         Due.refused(16, "sortAt -1", x, () -> x.sortAt(-1), Due.BAD);
         Due.same(9, "window", Due.sorts(x), "3...........");
+        x.place(3, 3);
+        x.place(0, 4);
+        Due.is(9, "the other of that sort stays", x.sorts(3, 0), 1);
     }
 
     private static void lookers() {
@@ -71,6 +74,10 @@ public final class WindowTest {
         Due.is(11, "likes his a no more", x.likes(0, 5, false), 1);
         x.place(0, 5);
         Due.is(11, "a counts all the same", x.taken(1, 0), 1);
+        x.likes(0, 3, true);
+        Due.is(11, "likes 0, though he likes 3", x.likes(0, 0, true), 0);
+        Due.is(11, "likes 0 no more", x.likes(0, 0, false), 1);
+        Due.is(11, "but likes 3", x.lookerOf(0, 3), 8);
         Due.refused(11, "looker 1", x, () -> x.likes(1, 0, true), Due.BAD);
         Due.refused(11, "looker -1", x, () -> x.likes(-1, 0, true), Due.BAD);
         Due.refused(11, "sort 8", x, () -> x.likes(0, 8, true), Due.BAD);
@@ -128,6 +135,8 @@ public final class WindowTest {
         Due.is(15, "shine", x.lookerOf(1, 5), 7);
         Due.is(15, "no shine", x.lookerOf(0, 5), Due.NONE);
         Due.is(15, "order of those read", x.order(3, 0), 1);
+        Due.is(15, "the last place", Due.read(x, "clear 11;place 11 5"), 2);
+        Due.is(15, "the last place then", x.place(11, 7), 5);
         Due.is(15, "the shortest", Due.read(x, "clear0"), 1);
         Due.same(15, "cleared", Due.sorts(x), "..23.......7");
     }
@@ -176,6 +185,8 @@ public final class WindowTest {
         fault("clear 0 0", 8);
         fault("clear 0 clear 0", 8);
         fault("clear 12", 6);
+        fault("place 12 0", 6);
+        fault("place 99 0", 6);
         fault("clear 000", 6);
         fault("clear 1000000000000000000000", 6);
         fault("clear -1", 6);
