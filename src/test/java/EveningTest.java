@@ -271,7 +271,10 @@ public final class EveningTest {
         x.place(4, 1);
         Due.looker(x, Due.LOOKER, 1, 90, "");
         Due.is(45, "all that was taken is gone", judge(x, 2, 0, 1, 4, 0, -1, 3, -1), Due.NONE);
+        x.tell(3, 1, 1);
+        Due.is(45, "who is not told does not look", judge(x, 0, -1), Due.NONE);
         x.place(4, 4);
+        Due.is(45, "nor comes in the order", judge(x, 0, 4), Due.NONE);
         x.tell(3, 1, 99);
         x.likes(1, 0, false);
         Due.is(45, "1 takes nothing", judge(x, 2, 0, 1, -1, 0, 4), Due.NONE);

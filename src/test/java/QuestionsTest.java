@@ -103,6 +103,16 @@ public final class QuestionsTest {
         x.place(1, 7);
         Due.looker(x, Due.LOOKER, 0, 99, "");
         Due.is(24, "of sorts that are an a of theirs", x.setOut(3, 0), 1);
+        x.looker(Due.LOOKER, 3, 98);
+        x.place(11, 3);
+        x.likes(0, 3, true);
+        x.tell(0, 1, 99);
+        x.tell(3, 1, 0);
+        Due.is(24, "of sorts that are an a of who comes", x.setOut(8, -1), 0);
+        x.place(11, Due.NONE);
+        Due.is(24, "of his own a", x.setOut(8, 0), 3);
+        x.likes(0, 3, false);
+        x.tell(0, 1, 1);
         x.place(1, 0);
         x.likes(0, 0, false);
         x.likes(0, 1, false);
@@ -249,6 +259,8 @@ public final class QuestionsTest {
         Due.is(28, "one of four", four.likely(3), 1000000);
         four.tell(3, 0, 0);
         Due.is(28, "one of four who never comes", four.likely(3), 1000000);
+        four.tell(0, 1, 60);
+        Due.is(28, "who is elder than one who wants the same", four.likely(0), 500000);
         Due.refused(28, "3", x, () -> x.likely(3), Due.BAD);
         Due.refused(28, "-1", x, () -> x.likely(-1), Due.BAD);
     }

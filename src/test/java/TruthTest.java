@@ -257,16 +257,16 @@ public final class TruthTest {
         SeenInOrderOfAge x = new SeenInOrderOfAge();
         for (int i = 0; i < 8; i++) {
             x.looker(Due.GREEDY, i, 5);
-            x.tell(i, 0, i % 3 == 0 ? 0 : 12);
+            x.tell(i, 0, i % 2 == 0 ? 0 : 12);
         }
         int things = x.christmases(40);
         for (int i = 0; i < 8; i++) {
-            Due.is(48, i + " comes never or always", x.lookerOf(i, 10 + i) == 0 ? 1 : 0, i % 3 == 0 ? 1 : 0);
+            Due.is(48, i + " comes never or always", x.lookerOf(i, 10 + i) == 0 ? 1 : 0, i % 2 == 0 ? 1 : 0);
         }
         Due.is(48, "all who come have all that was taken", x.status(2), Math.min(things, x.status(2)));
-        int kept = x.sorts(0, 0) + x.sorts(3, 0) + x.sorts(6, 0);
+        int kept = x.sorts(0, 0) + x.sorts(2, 0) + x.sorts(4, 0) + x.sorts(6, 0);
         x.christmases(1);
-        Due.is(48, "what nobody wants who comes is left", x.sorts(0, 0) + x.sorts(3, 0) + x.sorts(6, 0) >= kept ? 1 : 0, 1);
+        Due.is(48, "what nobody wants who comes is left", x.sorts(0, 0) + x.sorts(2, 0) + x.sorts(4, 0) + x.sorts(6, 0) >= kept ? 1 : 0, 1);
     }
 
     private static void images() {
