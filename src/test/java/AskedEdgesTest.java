@@ -119,7 +119,7 @@ public final class AskedEdgesTest {
     }
 
     private static void crowdFirst() {
-        Sentence s = Sentence.of(23, "the set of k LOOKERS of whom most are GLAD, of several the first as bits");
+        Sentence s = Sentence.of(23, "CROWD of k: the set of k LOOKERS of whom most are GLAD, of several the first as bits: how many; the set.");
         Sentence.Scene none = () -> row("7", Due.LOOKER, 0, 1, 2, 3);
         int[] sets = {0, 1, 3, 7, 15};
         for (int k = 0; k <= 4; k++) {
@@ -166,7 +166,7 @@ public final class AskedEdgesTest {
     }
 
     private static void someA() {
-        Sentence s = Sentence.of(24, "the fewest THINGS more, each of some a of those who come (a set)");
+        Sentence s = Sentence.of(24, "SET OUT: the fewest THINGS more, each of some a of those who come (a set)");
         Sentence.Scene scene = () -> {
             SeenInOrderOfAge x = Due.window("");
             Due.looker(x, Due.CHILD, 3, 1, "1");
@@ -176,11 +176,25 @@ public final class AskedEdgesTest {
         };
         setOut(s, "the CHILD and the OLD one, none for whom it is an a", scene, 3, 3, 3, 3);
         setOut(s, "the CHILD alone", scene, 1, 3);
+        Sentence.Scene behind = () -> {
+            SeenInOrderOfAge x = Due.window(".0.0000004..");
+            Due.looker(x, Due.OLD, 2, 1, "4");
+            x.looker(Due.LOOKER, 1, 2);
+            x.looker(Due.LOOKER, 3, 0);
+            return x;
+        };
+        setOut(s, "not of an a of those who don't come", behind, 1, 2, 2, 2);
+        cantSetOut(s, "of an a of those who come, but three aren't enough", () -> row("", Due.LOOKER, 1, 2, 3, 4), 15);
+        setOut(s, "of an a of one who is GLAD already", () -> {
+            SeenInOrderOfAge x = behind.make();
+            x.place(1, 1);
+            return x;
+        }, 3, 1, 1, 2);
         setOut(s, "the CHILD and one whose a is the other he LIKES", scene, 5, 1, 1, 3);
     }
 
     private static void firstEmptyFirst() {
-        Sentence s = Sentence.of(24, "put into empty PLACES, the first empty one first");
+        Sentence s = Sentence.of(24, "put into empty PLACES, the first empty one first, so that all of the set are GLAD: ");
         Sentence.Scene behind = () -> {
             SeenInOrderOfAge x = Due.window("...0......4.");
             Due.looker(x, Due.OLD, 2, 1, "4");
@@ -211,6 +225,13 @@ public final class AskedEdgesTest {
             return x;
         };
         setOut(s, "the first row isn't enough", turned, 3, 2, 1);
+        setOut(s, "a row ahead of others that are enough, too", () -> {
+            SeenInOrderOfAge x = Due.window("..51");
+            Due.looker(x, Due.CHILD, 3, 1, "5");
+            Due.looker(x, Due.LOOKER, 5, 2, "");
+            Due.looker(x, Due.LOOKER, 1, 3, "");
+            return x;
+        }, 7, 3, 3);
         Sentence.Scene middle = () -> {
             SeenInOrderOfAge x = Due.window("");
             Due.looker(x, Due.OLD, 1, 1, "02");
@@ -242,7 +263,7 @@ public final class AskedEdgesTest {
     }
 
     private static void howManySets() {
-        Sentence s = Sentence.of(25, "how many sets of LOOKERS leave just that; the first as bits; who came in all of them (bits); who in some.");
+        Sentence s = Sentence.of(25, "WHO by a set of PLACES told LEFT: how many sets of LOOKERS leave just that; the first as bits; who came in all of them (bits); who in some.");
         Sentence.Scene nobodyWants = () -> row("0", Due.LOOKER, 1, 1, 1, 1, 1, 1, 1, 1);
         int[] all = {256, 0, 0, 255};
         Sentence.Scene allWant = () -> row("1", Due.LOOKER, 1, 1, 1, 1, 1, 1, 1, 1);
@@ -258,7 +279,7 @@ public final class AskedEdgesTest {
     }
 
     private static void noSets() {
-        Sentence s = Sentence.of(25, "who came in all (2; NONE: there are no sets), in some (3).");
+        Sentence s = Sentence.of(25, "WHO by PLACES (bits) told LEFT: how many sets (what 0), the first (1; NONE), who came in all (2; NONE: there are no sets), in some (3).");
         Sentence.Scene scene = () -> row("01", Due.LOOKER, 0, 1);
         int[] want = {0, Due.NONE, Due.NONE, 0};
         for (int what = 0; what < 4; what++) {
@@ -285,7 +306,7 @@ public final class AskedEdgesTest {
     }
 
     private static void justThese() {
-        Sentence s = Sentence.of(26, "KINDS (bits) by which he would have taken just these, a, AGE, LIKES as they are.");
+        Sentence s = Sentence.of(26, "KINDS of one by PLACES (bits) told TAKEN, if a set comes: KINDS (bits) by which he would have taken just these, a, AGE, LIKES as they are.");
         Sentence.Scene bare = () -> row("", Due.LOOKER, 2);
         s.asked("nothing of nothing", bare, x -> x.kinds(1, 0, 0, 0), 63);
         s.asked("something of nothing", bare, x -> x.kinds(1, 0, 1, 0), 0);

@@ -209,7 +209,7 @@ public final class BoundsTest {
     }
 
     private static void evenings() {
-        Sentence bad = Sentence.of(18, "nothing of that number (also a set with LOOKERS that aren't there)");
+        Sentence bad = Sentence.of(18, "LEFT, if a set comes. BAD.");
         bad.asksBounds("left, of three", Scenes::dressed, 0, 7, (x, v) -> x.left(v), BoundsTest::leaves);
         bad.asksBounds("left, of nobody", Scenes::nobody, 0, 0, (x, v) -> x.left(v), v -> v == 0 ? 0b101000000011 : Due.BAD);
         bad.outside("left, of eight", Scenes::eight, 0, 255, (x, v) -> x.left(v));

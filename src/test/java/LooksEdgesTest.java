@@ -17,6 +17,7 @@ public final class LooksEdgesTest {
         shyMost();
         shyLeast();
         shyFirstPlace();
+        ofWhatIsThere();
         gone();
         left();
         taken();
@@ -256,6 +257,19 @@ public final class LooksEdgesTest {
         takes(s, Due.SHY, 2, "1", "1.2.2.......", "2");
     }
 
+    private static void ofWhatIsThere() {
+        Sentence s = Sentence.of(19, "Each takes, of what is in the PLACES then:");
+        SeenInOrderOfAge x = Due.window("12");
+        Due.looker(x, Due.LOOKER, 1, 99, "2");
+        Due.looker(x, Due.LOOKER, 1, 98, "2");
+        Due.looker(x, Due.LOOKER, 1, 0, "");
+        s.is("the youngest his a", x.taken(7, 2), 1);
+        s.is("another what he LIKES", x.taken(7, 1), 2);
+        s.is("the eldest nothing", x.taken(7, 0), 0);
+        s.is("the eldest without the other", x.taken(5, 0), 2);
+        s.is("the eldest without both", x.taken(1, 0), 1);
+    }
+
     private static void gone() {
         Sentence s = Sentence.of(18, "What is taken is gone from its PLACE");
         SeenInOrderOfAge x = Due.window("222222222222");
@@ -306,7 +320,7 @@ public final class LooksEdgesTest {
     }
 
     private static void taken() {
-        Sentence s = Sentence.of(19, "(0: he isn't in it)");
+        Sentence s = Sentence.of(19, "TAKEN by one, if a set comes: PLACES (bits).");
         SeenInOrderOfAge x = Due.window("22");
         x.looker(Due.LOOKER, 2, 0);
         x.looker(Due.LOOKER, 2, 1);

@@ -5,6 +5,9 @@
 public final class RefusalsTest {
     public static void main(String[] args) {
         counted();
+        bad();
+        otherAndNothing();
+        stuckAndFull();
         set();
         copyOfShelves();
         copyOfOthers();
@@ -50,8 +53,63 @@ public final class RefusalsTest {
         }
     }
 
+    private static void bad() {
+        Sentence s = Sentence.of(18, "-2 BAD a number that may not be, nothing of that number (also a set with LOOKERS that aren't there).");
+        s.refused("a number that may not be", Scenes::dressed, x -> x.tell(0, 0, 13), Due.BAD);
+        s.refused("no PLACE of that number", Scenes::dressed, x -> x.sortAt(12), Due.BAD);
+        s.refused("no LOOKER of that number", Scenes::dressed, x -> x.without(3), Due.BAD);
+        s.refused("one who isn't there", Scenes::dressed, x -> x.left(8), Due.BAD);
+        s.refused("one who is, and one who isn't", Scenes::dressed, x -> x.left(9), Due.BAD);
+        s.refused("all, and one who isn't", Scenes::dressed, x -> x.left(15), Due.BAD);
+        s.refused("the last bit", Scenes::dressed, x -> x.left(Integer.MIN_VALUE), Due.BAD);
+        s.refused("all, and the last bit", Scenes::dressed, x -> x.left(Integer.MIN_VALUE + 7), Due.BAD);
+        s.refused("all, and bit 8", Scenes::eight, x -> x.left(511), Due.BAD);
+        s.refused("anybody before a window that nobody looks at", Scenes::nobody, x -> x.left(1), Due.BAD);
+    }
+
+    private static void otherAndNothing() {
+        Sentence other = Sentence.of(3, "-3 OTHER: a SHELF that holds another thing than is wanted.");
+        Sentence nothing = Sentence.of(3, "-4 NOTHING: a SHELF that holds NOTHING.");
+        other.refused("a LOOKER, a ROW is wanted", RefusalsTest::shelves, x -> x.set(2, 0, 1), Due.OTHER);
+        other.refused("a LOOKER, a told EVENING is wanted", RefusalsTest::shelves, x -> x.judge(5, 1), Due.OTHER);
+        other.refused("a LOOKER, a ROW to copy is wanted", RefusalsTest::shelves, x -> x.copy(5, 5, 0, 0, 0), Due.OTHER);
+        other.refused("a ROW, a LOOKER is wanted", RefusalsTest::shelves, x -> x.says(6, 0), Due.OTHER);
+        nothing.refused("a ROW is wanted", RefusalsTest::shelves, x -> x.set(7, 0, 1), Due.NOTHING);
+        nothing.refused("a told EVENING is wanted", RefusalsTest::shelves, x -> x.judge(7, 1), Due.NOTHING);
+        nothing.refused("a ROW to copy is wanted", RefusalsTest::shelves, x -> x.copy(7, 3, 0, 0, 0), Due.NOTHING);
+        nothing.refused("a LOOKER is wanted", RefusalsTest::shelves, x -> x.says(7, 0), Due.NOTHING);
+        Sentence shelves = Sentence.of(7, "SHELVES 0 to 7 hold NOTHING (at first), a ROW, or a LOOKER.");
+        for (int shelf = 0; shelf < 8; shelf++) {
+            int s = shelf;
+            shelves.refused("NOTHING at first in " + shelf, Scenes::nobody, x -> x.says(s, 0), Due.NOTHING);
+            shelves.refused("NOTHING shown in " + shelf, Scenes.behind(Scenes::dressed, x -> x.show(s, Due.NONE)), x -> x.set(s, 0, 1), Due.NOTHING);
+            shelves.refused("a LOOKER in " + shelf, Scenes.behind(Scenes::dressed, x -> x.show(s, 2)), x -> x.set(s, 0, 1), Due.OTHER);
+            shelves.refused("a ROW in " + shelf, Scenes.behind(Scenes::dressed, x -> x.row(s, 2, 2)), x -> x.says(s, 0), Due.OTHER);
+        }
+    }
+
+    private static void stuckAndFull() {
+        Sentence stuck = Sentence.of(27, "-5 STUCK: it can't be as things stand.");
+        stuck.refused("a THING that isn't there", Scenes::dressed, x -> x.odds(8), Due.STUCK);
+        stuck.is("it can be, when it is there", Due.window("........1").odds(8), 1000000);
+        Sentence full = Sentence.of(10, "-6 FULL.");
+        full.refused("LOOKERS", Scenes::eight, x -> x.looker(0, 0, 0), Due.FULL);
+        full.refused("THE TAPE", Scenes::fullTape, x -> x.feed(0), Due.FULL);
+        SeenInOrderOfAge x = Scenes.fullTape();
+        x.wipe();
+        full.is("THE TAPE no more", x.feed(0), 1);
+        SeenInOrderOfAge y = Scenes.bare();
+        y.image();
+        for (int i = 0; i < 8; i++) {
+            y.looker(0, 0, 0);
+        }
+        full.is("LOOKERS", y.looker(0, 0, 0), Due.FULL);
+        y.back();
+        full.is("LOOKERS no more", y.looker(0, 0, 0), 0);
+    }
+
     private static void set() {
-        Sentence s = Sentence.of(3, "BAD SHELF; OTHER; NOTHING; BAD i.");
+        Sentence s = Sentence.of(3, "the first that fits as each line has them): ");
         s.refused("no SHELF, no i", RefusalsTest::shelves, x -> x.set(8, 40, 0), Due.BAD);
         s.refused("a LOOKER", RefusalsTest::shelves, x -> x.set(2, 0, 0), Due.OTHER);
         s.refused("a LOOKER, no i", RefusalsTest::shelves, x -> x.set(2, -1, 0), Due.OTHER);

@@ -50,7 +50,7 @@ final class Scenes {
     static SeenInOrderOfAge fullTape() {
         SeenInOrderOfAge x = new SeenInOrderOfAge();
         feed(x, "place");
-        while (x.status(5) < 247) {
+        for (int i = 5; i < 247; i++) {
             x.feed(' ');
         }
         feed(x, "0 5");
@@ -65,6 +65,15 @@ final class Scenes {
     /** An empty window, nobody before it. */
     static SeenInOrderOfAge bare() {
         return new SeenInOrderOfAge();
+    }
+
+    /** A scene behind one call more. */
+    static Sentence.Scene behind(Sentence.Scene scene, Sentence.Call call) {
+        return () -> {
+            SeenInOrderOfAge x = scene.make();
+            call.of(x);
+            return x;
+        };
     }
 
     static void feed(SeenInOrderOfAge x, String text) {

@@ -1,14 +1,8 @@
-import java.io.IOException;
-import java.nio.file.Files;
-import java.nio.file.Path;
-
 /** A sentence of the document, by the promise that it is asked of; what is tried of it is told with it. */
 final class Sentence {
-    private static final Path DOCUMENT = Path.of("../shared/DOC.md");
     private static final int[] EXTREMES = {
         Integer.MIN_VALUE, Integer.MIN_VALUE + 1, -1, Integer.MAX_VALUE - 1, Integer.MAX_VALUE,
     };
-    private static String document = null;
 
     interface Scene {
         SeenInOrderOfAge make();
@@ -34,22 +28,9 @@ final class Sentence {
         this.words = words;
     }
 
-    /** The words must stand in the document as they are quoted. */
+    /** The words must stand in the document as they are quoted (see LedgerTest, which looks at all of them). */
     static Sentence of(int promise, String words) {
-        Sentence sentence = new Sentence(promise, words);
-        sentence.is("words in the document", document().contains(words) ? 1 : 0, 1);
-        return sentence;
-    }
-
-    private static String document() {
-        if (document == null) {
-            try {
-                document = Files.readString(DOCUMENT);
-            } catch (IOException e) {
-                document = "";
-            }
-        }
-        return document;
+        return new Sentence(promise, words);
     }
 
     void is(String what, long got, long want) {
@@ -62,32 +43,24 @@ final class Sentence {
 
     /** The call answers the number of the refusal; there is one more of that kind; nothing else is changed. */
     void refused(String what, Scene scene, Call call, int code) {
-        SeenInOrderOfAge x = scene.make();
-        SeenInOrderOfAge other = scene.make();
-        is(what, call.of(x), code);
-        countsAsRefusal(what, x, other, code);
-        same(what + " changes nothing", Story.of(x), Story.of(other));
+        leavesAll(what, scene, call, code);
     }
 
     /** The call answers, refuses nothing and changes nothing. */
     void asked(String what, Scene scene, Call call, long want) {
+        leavesAll(what, scene, call, want);
+    }
+
+    private void leavesAll(String what, Scene scene, Call call, long want) {
         SeenInOrderOfAge x = scene.make();
         SeenInOrderOfAge other = scene.make();
         is(what, call.of(x), want);
-        countsAsRefusal(what, x, other, 0);
+        countsAsRefusal(what, x, other, want);
         same(what + " changes nothing", Story.of(x), Story.of(other));
     }
 
-    /** The call does what another run of calls does, and answers, and refuses nothing. */
-    void does(String what, Scene scene, Call call, long want, Scene wanted) {
-        SeenInOrderOfAge x = scene.make();
-        SeenInOrderOfAge other = wanted.make();
-        is(what, call.of(x), want);
-        countsAsRefusal(what, x, other, 0);
-        same(what + " comes to the same", Story.of(x), Story.of(other));
-    }
-
-    private void countsAsRefusal(String what, SeenInOrderOfAge x, SeenInOrderOfAge other, int code) {
+    /** One refusal more than another object tells, if the answer is the number of one; none more, if it isn't. */
+    private void countsAsRefusal(String what, SeenInOrderOfAge x, SeenInOrderOfAge other, long code) {
         for (int c = Due.BAD; c >= Due.FULL; c--) {
             is(what + ", refusals " + c, x.status(10 - c), other.status(10 - c) + (c == code ? 1 : 0));
         }
@@ -104,11 +77,7 @@ final class Sentence {
     /** What is asked changes nothing, on the bounds, just inside, just outside or at the extremes. */
     void asksBounds(String what, Scene scene, int least, int most, CallWith call, Answer want) {
         for (int v : new int[] {least, least + 1, most - 1, most}) {
-            if (want.to(v) <= Due.BAD) {
-                refused(what + " " + v, scene, x -> call.of(x, v), (int) want.to(v));
-            } else {
-                asked(what + " " + v, scene, x -> call.of(x, v), want.to(v));
-            }
+            leavesAll(what + " " + v, scene, x -> call.of(x, v), want.to(v));
         }
         outside(what, scene, least, most, call);
     }
@@ -131,6 +100,6 @@ final class Sentence {
         SeenInOrderOfAge x = scene.make();
         SeenInOrderOfAge other = scene.make();
         is(what, call.of(x, v), want);
-        countsAsRefusal(what, x, other, want <= Due.BAD && want >= Due.FULL ? (int) want : 0);
+        countsAsRefusal(what, x, other, want);
     }
 }

@@ -216,7 +216,7 @@ public final class ShelfEdgesTest {
     }
 
     private static void hisAge() {
-        Sentence s = Sentence.of(8, "LOOKER his AGE");
+        Sentence s = Sentence.of(8, "What the LOOKER in SHELF s, taken for one of a KIND, says: LOOKER his AGE;");
         SeenInOrderOfAge x = Scenes.eight();
         for (int looker = 0; looker < 8; looker++) {
             x.show(looker, looker);
@@ -229,7 +229,7 @@ public final class ShelfEdgesTest {
     }
 
     private static void now() {
-        Sentence s = Sentence.of(8, "which PLACES (bits) he would take now, if he alone came");
+        Sentence s = Sentence.of(8, "CHILD, GREEDY, OLD, GIVER, SHY which PLACES (bits) he would take now, if he alone came");
         SeenInOrderOfAge x = Scenes.bare();
         x.looker(Due.GREEDY, 4, 50);
         x.show(0, 0);
@@ -313,7 +313,7 @@ public final class ShelfEdgesTest {
     }
 
     private static void keptShelves() {
-        Sentence s = Sentence.of(51, "(SHELVES with LOOKERS hold those of the same numbers, or NOTHING)");
+        Sentence s = Sentence.of(51, "(SHELVES with LOOKERS hold those of the same numbers, or NOTHING): 1.");
         SeenInOrderOfAge x = Scenes.bare();
         for (int i = 0; i < 4; i++) {
             x.looker(Due.LOOKER, i, 10 + i);

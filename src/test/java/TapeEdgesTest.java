@@ -119,7 +119,7 @@ public final class TapeEdgesTest {
     }
 
     private static void oneOrMore() {
-        Sentence s = Sentence.of(15, "STATEMENTS, one or more");
+        Sentence s = Sentence.of(15, "THE TAPE is a WINDOW: how many STATEMENTS; -20 less the FAULT");
         fault(s, "", 0);
         fault(s, " ", 1);
         fault(s, ";", 0);
@@ -266,7 +266,7 @@ public final class TapeEdgesTest {
     }
 
     private static void mayNotBe() {
-        Sentence s = Sentence.of(15, "the place of the first byte of the first TOKEN that can't stand there (also a NUMBER that may not be");
+        Sentence s = Sentence.of(15, "The FAULT: the place of the first byte of the first TOKEN that can't stand there (also a NUMBER that may not be, ");
         fault(s, "place 12 99;x", 6);
         fault(s, "place 11 99;x", 9);
         fault(s, "place  11   8", 12);

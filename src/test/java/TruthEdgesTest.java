@@ -57,7 +57,7 @@ public final class TruthEdgesTest {
     }
 
     private static void bringsIt() {
-        Sentence s = Sentence.of(43, "each LOOKER with a SHINE brings it");
+        Sentence s = Sentence.of(43, "SWAPS: each LOOKER with a SHINE brings it.");
         gets(s, "nobody", Scenes::bare, 0);
         gets(s, "who has none", () -> bringers(3, -1), 0, Due.NONE);
         gets(s, "who has one", () -> bringers(3, 0), 0, 0);
@@ -140,7 +140,7 @@ public final class TruthEdgesTest {
     }
 
     private static void anotherSort() {
-        Sentence s = Sentence.of(44, "how many get another SORT than they brought");
+        Sentence s = Sentence.of(44, "NEXT of one: the SORT he has then (NONE: he brings none); how many get another SORT than they brought.");
         gets(s, "the same SORT from another", () -> bringers(1, 1, 1, 1), 0, 1, 1);
         gets(s, "two of three", () -> bringers(1, 2, 2, 1, 1, 1), 2, 1, 2, 1);
         gets(s, "none", () -> bringers(1, 1, 2, 2, 3, 3), 0, 1, 2, 3);
@@ -174,7 +174,7 @@ public final class TruthEdgesTest {
     }
 
     private static void comesNextInOrder() {
-        Sentence s = Sentence.of(45, "the first pair (0 on) whose LOOKER doesn't come next in ORDER of all LOOKERS told in it");
+        Sentence s = Sentence.of(45, "in the order told: WRONG: the first pair (0 on) whose LOOKER doesn't come next in ORDER of all LOOKERS told in it");
         judged(s, "all", TruthEdgesTest::four, Due.NONE, 1, 1, 2, 3, 3, 4, 0, -1);
         judged(s, "the eldest first", TruthEdgesTest::four, 0, 0, 4, 1, 1, 2, 3);
         judged(s, "the second and third turned", TruthEdgesTest::four, 1, 1, 1, 3, 3, 2, 4);
@@ -209,6 +209,9 @@ public final class TruthEdgesTest {
         judged(s, "the number behind the last", TruthEdgesTest::four, 1, 1, 1, 4, -1);
         judged(s, "32, that is no 0", TruthEdgesTest::four, 1, 1, 1, 32, 4);
         judged(s, "only one who isn't there", TruthEdgesTest::four, 0, 8, -1);
+        judged(s, "33 told later, that is no 1", TruthEdgesTest::four, 1, 0, 4, 33, 1);
+        judged(s, "-31 told later, that is no 1", TruthEdgesTest::four, 1, 0, 4, -31, 1);
+        judged(s, "4 told later, ahead of whom nobody is", TruthEdgesTest::four, 1, 0, 4, 4, -1);
         SeenInOrderOfAge x = Scenes.bare();
         s.is("nobody is there", judge(x, 0, 0, -1), 0);
         long[] far = {Long.MIN_VALUE, 4294967296L, Long.MAX_VALUE, -4294967296L};
@@ -219,6 +222,12 @@ public final class TruthEdgesTest {
             y.set(3, 1, 4);
             s.is("LOOKER " + v, y.judge(3, 1), 0);
         }
+        SeenInOrderOfAge z = four();
+        z.row(3, 3, 4);
+        z.set(3, 1, 4);
+        z.set(3, 2, 4294967297L);
+        z.set(3, 3, 1);
+        s.is("a LOOKER told later whose lowest bits are 1", z.judge(3, 2), 1);
     }
 
     private static void placeHeWouldTake() {
@@ -247,7 +256,7 @@ public final class TruthEdgesTest {
     }
 
     private static void firstPlaceIsTold() {
-        Sentence s = Sentence.of(45, "(of CHILD, GREEDY: the first PLACE he takes is told)");
+        Sentence s = Sentence.of(45, "(of CHILD, GREEDY: the first PLACE he takes is told); NONE.");
         Sentence.Scene child = () -> {
             SeenInOrderOfAge x = Due.window("11..........");
             x.looker(Due.CHILD, 1, 0);
@@ -318,7 +327,7 @@ public final class TruthEdgesTest {
     }
 
     private static void addedToHas() {
-        Sentence s = Sentence.of(46, "what each takes is added to HAS, its PLACE is empty");
+        Sentence s = Sentence.of(46, "IN TRUTH: an EVENING of a set: what each takes is added to HAS, its PLACE is empty");
         SeenInOrderOfAge x = Due.window("012345670707");
         for (int i = 0; i < 8; i++) {
             x.looker(Due.GREEDY, i, 10);
@@ -424,7 +433,7 @@ public final class TruthEdgesTest {
     }
 
     private static void swapLessAndMore() {
-        Sentence s = Sentence.of(47, "each has the SORT he gets for his SHINE, and HAS is 1 less of what he brought, 1 more of what he gets");
+        Sentence s = Sentence.of(47, "SWAPS in truth: each has the SORT he gets for his SHINE, and HAS is 1 less of what he brought, 1 more of what he gets");
         SeenInOrderOfAge x = bringers(1, -1, 0, -1, 5, -1);
         x.likes(0, 0, true);
         x.likes(1, 1, true);
@@ -473,7 +482,7 @@ public final class TruthEdgesTest {
     }
 
     private static void drawWrapping() {
-        Sentence s = Sentence.of(48, "SEED (1 at first) becomes SEED times 1103515245, and 12345 (an int, wrapping); its upper 16 bits, no sign, modulo n.");
+        Sentence s = Sentence.of(48, "A DRAW below n: SEED (1 at first) becomes SEED times 1103515245, and 12345 (an int, wrapping); its upper 16 bits, no sign, modulo n.");
         s.is("1 at first", Scenes.bare().status(6), 1);
         int[] seeds = {0, 1, -1, 2, 20, Integer.MAX_VALUE, Integer.MIN_VALUE, 12345, -987654321};
         for (int seed : seeds) {
@@ -512,7 +521,7 @@ public final class TruthEdgesTest {
     }
 
     private static void drawBelowComes() {
-        Sentence s = Sentence.of(48, "by numbers, a LOOKER comes, if a DRAW below 12 is below his COMES");
+        Sentence s = Sentence.of(48, "CHRISTMASES by draws, n: each: by numbers, a LOOKER comes, if a DRAW below 12 is below his COMES");
         for (int seed = 0; seed < 24; seed++) {
             int drawn = (int) draw(seed, 0, 12);
             for (int comes : new int[] {0, drawn - 1, drawn, drawn + 1, 12}) {
@@ -537,7 +546,7 @@ public final class TruthEdgesTest {
     }
 
     private static void drawsInTurn() {
-        Sentence s = Sentence.of(48, "then all PLACES that are empty, in turn, get a THING of SORT a DRAW below 8");
+        Sentence s = Sentence.of(48, "an EVENING of these; then all PLACES that are empty, in turn, get a THING of SORT a DRAW below 8");
         for (int lookers = 0; lookers <= 8; lookers++) {
             SeenInOrderOfAge x = Scenes.bare();
             for (int i = 0; i < lookers; i++) {
