@@ -160,8 +160,8 @@ public final class EveningTest {
     }
 
     private static void refusedSets() {
-        SeenInOrderOfAge x = three();
         for (int set : new int[] {8, 9, -1, Integer.MIN_VALUE, 256}) {
+            SeenInOrderOfAge x = three();
             Due.refused(18, "left " + set, x, () -> x.left(set), Due.BAD);
             Due.refused(19, "taken " + set, x, () -> x.taken(set, 0), Due.BAD);
             Due.refused(20, "glad " + set, x, () -> x.glad(set, 0), Due.BAD);
@@ -172,6 +172,7 @@ public final class EveningTest {
             Due.refused(41, "twice then " + set, x, () -> x.twice(0, set), Due.BAD);
             Due.refused(42, "unlike " + set, x, () -> x.unlike(set), Due.BAD);
         }
+        SeenInOrderOfAge x = three();
         Due.refused(19, "taken by 3", x, () -> x.taken(7, 3), Due.BAD);
         Due.refused(19, "taken by -1", x, () -> x.taken(7, -1), Due.BAD);
         Due.refused(20, "glad what 2", x, () -> x.glad(7, 2), Due.BAD);

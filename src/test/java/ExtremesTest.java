@@ -10,7 +10,8 @@ import java.util.stream.Collectors;
 /** No call ever throws, whatever it is given; and what it answers may be answered. */
 public final class ExtremesTest {
     private static final int RUNS = 600;
-    private static final int CALLS = 512;
+    /** As many as an object may be used for, but for those that make its lookers. */
+    private static final int CALLS = 504;
     private static final int[] NUMBERS = {
         Integer.MIN_VALUE, Integer.MIN_VALUE + 1, -65536, -257, -256, -20, -6, -3, -2, -1, 0, 1, 2, 3, 4, 5, 6, 7, 8, 9, 10, 11, 12, 13,
         16, 17, 18, 20, 21, 31, 32, 39, 40, 41, 63, 99, 100, 127, 128, 250, 255, 256, 4095, 4096, 65535, Integer.MAX_VALUE - 1, Integer.MAX_VALUE,

@@ -1,13 +1,54 @@
+import java.lang.reflect.InvocationTargetException;
+import java.lang.reflect.Method;
+import java.lang.reflect.Modifier;
+import java.util.ArrayList;
+import java.util.Arrays;
+import java.util.List;
 import java.util.Random;
+import java.util.TreeMap;
 
-/** Runs of drawn calls, each answered by the program and by the plain model of the document. */
+/**
+ * Runs of drawn calls, each answered by the program and by the plain model of the document; behind a run the
+ * whole state is looked at. No object is used for more calls than the document lets it be.
+ */
 public final class PlainModelTest {
-    private static final int RUNS = 1200;
-    private static final int CALLS = 400;
+    private static final int RUNS = 3000;
+    private static final int STEPS = 400;
+    private static final int MOST_CALLS = 512;
+    private static final int LONGEST_TEXT = 120;
+    /** A step makes at most a text's calls and a few, and some calls are to be left to look with. */
+    private static final int LAST_STEP = MOST_CALLS - LONGEST_TEXT - 60;
+
+    private static final TreeMap<String, Method> PROGRAM = new TreeMap<>();
+    private static final TreeMap<String, Method> MODEL = new TreeMap<>();
     private static int wrong = 0;
+
+    /** A call of the face by its name, with what it is given. */
+    private record Call(String name, Object[] given) {
+        long onProgram(SeenInOrderOfAge x) {
+            return answer(PROGRAM.get(name), x);
+        }
+
+        long onModel(PlainModel m) {
+            return answer(MODEL.get(name), m);
+        }
+
+        private long answer(Method method, Object of) {
+            try {
+                return ((Number) method.invoke(of, given)).longValue();
+            } catch (IllegalAccessException | InvocationTargetException e) {
+                throw new IllegalStateException(told(), e);
+            }
+        }
+
+        String told() {
+            return name + Arrays.toString(given);
+        }
+    }
 
     private final SeenInOrderOfAge x = new SeenInOrderOfAge();
     private final PlainModel m = new PlainModel();
+    private final List<Call> calls = new ArrayList<>();
     private final Random random;
     private final StringBuilder told = new StringBuilder();
 
@@ -15,8 +56,14 @@ public final class PlainModelTest {
         random = new Random(seed);
     }
 
-    public static void main(String[] args) {
-        for (int run = 0; run < RUNS && wrong < 5; run++) {
+    public static void main(String[] args) throws NoSuchMethodException {
+        for (Method method : SeenInOrderOfAge.class.getDeclaredMethods()) {
+            if (Modifier.isPublic(method.getModifiers())) {
+                PROGRAM.put(method.getName(), method);
+                MODEL.put(method.getName(), PlainModel.class.getDeclaredMethod(method.getName(), method.getParameterTypes()));
+            }
+        }
+        for (int run = 0; run < RUNS && wrong == 0; run++) {
             new PlainModelTest(run).run();
         }
         System.out.println(wrong == 0 ? "the program answers as the plain model" : "the program answers otherwise");
@@ -26,41 +73,90 @@ public final class PlainModelTest {
     }
 
     private void run() {
-        int sorts = 2 + random.nextInt(7);
-        for (int place = 0; place < 12; place++) {
-            if (random.nextInt(5) != 0) {
-                int sort = random.nextInt(sorts);
-                x.place(place, sort);
-                m.place(place, sort);
-            }
+        begin();
+        int steps = random.nextInt(STEPS) / (1 + size()) + 20;
+        for (int i = 0; i < steps && calls.size() < LAST_STEP && wrong == 0; i++) {
+            step();
         }
-        int lookers = random.nextInt(9);
-        for (int i = 0; i < lookers; i++) {
-            int[] v = {random.nextInt(6), random.nextInt(sorts), random.nextInt(random.nextBoolean() ? 4 : 100)};
-            x.looker(v[0], v[1], v[2]);
-            m.looker(v[0], v[1], v[2]);
-            for (int s = 0; s < sorts; s++) {
-                boolean is = random.nextInt(3) == 0;
-                x.likes(i, s, is);
-                m.likes(i, s, is);
-            }
-            tellShine(i, random.nextInt(sorts));
-        }
-        int calls = random.nextInt(CALLS) / (1 + lookers) + 20;
-        for (int i = 0; i < calls && wrong == 0; i++) {
-            call();
-            look();
-        }
+        lookAtAll();
         if (wrong != 0) {
             System.out.println(told);
         }
     }
 
-    private void tellShine(int looker, int sort) {
-        if (random.nextBoolean()) {
-            x.tell(looker, 2, sort);
-            m.tell(looker, 2, sort);
+    private void begin() {
+        int sorts = 2 + random.nextInt(7);
+        for (int place = 0; place < 12; place++) {
+            if (random.nextInt(5) != 0) {
+                call("place", place, random.nextInt(sorts));
+            }
         }
+        int lookers = random.nextInt(9);
+        for (int i = 0; i < lookers; i++) {
+            call("looker", random.nextInt(6), random.nextInt(sorts), random.nextInt(random.nextBoolean() ? 4 : 100));
+            for (int s = 0; s < sorts; s++) {
+                if (random.nextInt(3) == 0) {
+                    call("likes", i, s, true);
+                }
+            }
+            if (random.nextBoolean()) {
+                call("tell", i, 2, random.nextInt(sorts));
+            }
+        }
+    }
+
+    private long call(String name, Object... given) {
+        Call call = new Call(name, given);
+        calls.add(call);
+        return answered(call, x);
+    }
+
+    private long answered(Call call, SeenInOrderOfAge of) {
+        long want = call.onModel(m);
+        long got = call.onProgram(of);
+        told.append(call.told()).append(" -> ").append(want).append('\n');
+        if (got != want || calls.size() > MOST_CALLS) {
+            wrong++;
+            told.append("  but the program answered ").append(got).append(", call ").append(calls.size()).append('\n');
+        }
+        return want;
+    }
+
+    /** The whole state is the same: read from objects behind the same calls, of each as much as it may be asked. */
+    private void lookAtAll() {
+        List<Call> reads = reads();
+        int room = MOST_CALLS - calls.size();
+        for (int from = 0; from < reads.size() && wrong == 0; from += room) {
+            SeenInOrderOfAge again = new SeenInOrderOfAge();
+            for (Call call : calls) {
+                call.onProgram(again);
+            }
+            for (Call read : reads.subList(from, Math.min(from + room, reads.size()))) {
+                answered(read, again);
+            }
+        }
+    }
+
+    private List<Call> reads() {
+        List<Call> reads = new ArrayList<>();
+        for (int place = 0; place < 12; place++) {
+            reads.add(new Call("sortAt", new Object[] {place}));
+        }
+        for (int who = 0; who < size(); who++) {
+            for (int what = 0; what < 18; what = what == 5 ? 10 : what + 1) {
+                reads.add(new Call("lookerOf", new Object[] {who, what}));
+            }
+        }
+        for (int what = -1; what < 18; what++) {
+            reads.add(new Call("status", new Object[] {what}));
+        }
+        for (int s = 0; s < 8; s++) {
+            reads.add(new Call("holds", new Object[] {s}));
+            for (int i = -1; i < 41; i++) {
+                reads.add(new Call("element", new Object[] {s, i}));
+            }
+        }
+        return reads;
     }
 
     /** A number from least to most, or, now and then, one outside. */
@@ -71,127 +167,68 @@ public final class PlainModelTest {
         return most < least ? least : least + random.nextInt(most - least + 1);
     }
 
+    private int size() {
+        return m.world.people.size();
+    }
+
     private int one() {
-        return near(0, m.world.people.size() - 1);
+        return near(0, size() - 1);
     }
 
     private int many() {
-        return near(0, (1 << m.world.people.size()) - 1);
+        return near(0, (1 << size()) - 1);
     }
 
-    private void due(String call, long got, long want) {
-        told.append(call).append(" -> ").append(want).append('\n');
-        if (got != want) {
-            wrong++;
-            told.append("  but the program answered ").append(got).append('\n');
-        }
+    private int shelf() {
+        return near(0, 7);
     }
 
-    /** The whole state is the same. */
-    private void look() {
-        for (int place = 0; place < 12; place++) {
-            if (x.sortAt(place) != m.sortAt(place)) {
-                due("sortAt " + place, x.sortAt(place), m.sortAt(place));
+    /** The call for each what from one below the least to one above the most. */
+    private void eachWhat(String name, int most, int... given) {
+        for (int what = -1; what <= most + 1; what++) {
+            Object[] all = new Object[given.length + 1];
+            for (int i = 0; i < given.length; i++) {
+                all[i] = given[i];
             }
-        }
-        for (int who = 0; who < m.world.people.size(); who++) {
-            for (int what = 0; what < 18; what = what == 5 ? 10 : what + 1) {
-                if (x.lookerOf(who, what) != m.lookerOf(who, what)) {
-                    due("lookerOf " + who + " " + what, x.lookerOf(who, what), m.lookerOf(who, what));
-                }
-            }
-        }
-        for (int what = -1; what < 18; what++) {
-            if (x.status(what) != m.status(what)) {
-                due("status " + what, x.status(what), m.status(what));
-            }
-        }
-        for (int s = 0; s < 8; s++) {
-            for (int i = -1; i < 41; i++) {
-                if (x.holds(s) != m.holds(s) || x.element(s, i) != m.element(s, i)) {
-                    due("element " + s + " " + i, x.element(s, i), m.element(s, i));
-                }
-            }
+            all[given.length] = what;
+            call(name, all);
         }
     }
 
-    private void call() {
+    private void step() {
         int which = random.nextInt(48);
-        int a;
-        int b;
-        switch (which) {
-            case 0:
-                a = near(0, 7);
-                b = near(0, 4);
-                int size = near(0, 40);
-                due("row " + a + " " + b + " " + size, x.row(a, b, size), m.row(a, b, size));
-                break;
-            case 1:
-                a = near(0, 7);
-                b = near(0, 10);
-                long v = random.nextBoolean() ? random.nextLong() : random.nextInt(14) - 1;
-                due("set " + a + " " + b + " " + v, x.set(a, b, v), m.set(a, b, v));
-                break;
-            case 2:
-                copies();
-                break;
-            case 3:
-                a = near(0, 7);
-                b = near(-1, m.world.people.size() - 1);
-                due("show " + a + " " + b, x.show(a, b), m.show(a, b));
-                break;
-            case 4:
-                a = near(0, 7);
-                for (int kind = -1; kind < 7; kind++) {
-                    due("says " + a + " " + kind, x.says(a, kind), m.says(a, kind));
-                }
-                break;
-            case 5:
-            case 6:
-                a = near(0, 11);
-                b = near(-1, 7);
-                due("place " + a + " " + b, x.place(a, b), m.place(a, b));
-                break;
-            case 7:
-                int kind = near(0, 5);
-                a = near(0, 7);
-                b = near(0, 99);
-                due("looker " + kind + " " + a + " " + b, x.looker(kind, a, b), m.looker(kind, a, b));
-                break;
-            case 8:
-                a = one();
-                b = near(0, 7);
-                boolean is = random.nextBoolean();
-                due("likes " + a + " " + b + " " + is, x.likes(a, b, is), m.likes(a, b, is));
-                break;
-            case 9:
-                a = one();
-                b = near(0, 2);
-                int value = near(-1, b == 0 ? 12 : b == 1 ? 99 : 7);
-                due("tell " + a + " " + b + " " + value, x.tell(a, b, value), m.tell(a, b, value));
-                break;
-            case 10:
-            case 11:
-            case 12:
-                text();
-                break;
-            case 13:
-                a = near(0, 255);
-                due("feed " + a, x.feed(a), m.feed(a));
-                due("wipe", x.wipe(), m.wipe());
-                break;
-            default:
-                ask(which);
+        if (which < 14) {
+            tellSomething(which);
+        } else if (which < 31) {
+            askOfSets(which);
+        } else {
+            askMore(which);
         }
     }
 
-    private void copies() {
-        int p = near(0, 7);
-        int q = random.nextInt(3) == 0 ? p : near(0, 7);
-        int i = near(0, 5);
-        int j = near(0, 5);
-        int n = near(0, 6);
-        due("copy " + p + " " + q + " " + i + " " + j + " " + n, x.copy(p, q, i, j, n), m.copy(p, q, i, j, n));
+    private void tellSomething(int which) {
+        switch (which) {
+            case 0 -> call("row", shelf(), near(0, 4), near(0, 40));
+            case 1 -> call("set", shelf(), near(0, 10), random.nextBoolean() ? random.nextLong() : random.nextInt(14) - 1L);
+            case 2 -> {
+                int p = shelf();
+                call("copy", p, random.nextInt(3) == 0 ? p : shelf(), near(0, 5), near(0, 5), near(0, 6));
+            }
+            case 3 -> call("show", shelf(), near(-1, size() - 1));
+            case 4 -> eachWhat("says", 5, shelf());
+            case 5, 6 -> call("place", near(0, 11), near(-1, 7));
+            case 7 -> call("looker", near(0, 5), near(0, 7), near(0, 99));
+            case 8 -> call("likes", one(), near(0, 7), random.nextBoolean());
+            case 9 -> {
+                int what = near(0, 2);
+                call("tell", one(), what, near(-1, what == 0 ? 12 : what == 1 ? 99 : 7));
+            }
+            case 10, 11, 12 -> text();
+            default -> {
+                call("feed", near(0, 255));
+                call("wipe");
+            }
+        }
     }
 
     private String someText() {
@@ -216,185 +253,87 @@ public final class PlainModelTest {
                 text.insert(at, signs.charAt(random.nextInt(signs.length())));
             }
         }
+        text.setLength(Math.min(text.length(), LONGEST_TEXT));
         return text.toString();
     }
 
     private void text() {
         String text = someText();
         for (int i = 0; i < text.length(); i++) {
-            if (x.feed(text.charAt(i)) != m.feed(text.charAt(i))) {
-                wrong++;
-            }
+            call("feed", (int) text.charAt(i));
         }
-        due("window '" + text + "'", x.window(), m.window());
+        call("window");
     }
 
-    private void ask(int which) {
+    private void askOfSets(int which) {
         int a = one();
         int b = many();
         switch (which) {
-            case 14:
-                due("left " + b, x.left(b), m.left(b));
-                break;
-            case 15:
-                due("taken " + b + " " + a, x.taken(b, a), m.taken(b, a));
-                break;
-            case 16:
-                int what = near(0, 1);
-                due("glad " + b + " " + what, x.glad(b, what), m.glad(b, what));
-                break;
-            case 17:
-                for (int i = -1; i < 9; i++) {
-                    due("order " + b + " " + i, x.order(b, i), m.order(b, i));
-                }
-                break;
-            case 18:
-                due("away " + a + " 0", x.away(a, 0), m.away(a, 0));
-                due("away " + a + " 1", x.away(a, 1), m.away(a, 1));
-                due("away " + a + " 2", x.away(a, 2), m.away(a, 2));
-                break;
-            case 19:
-                int k = near(0, m.world.people.size());
-                due("crowd " + k + " 0", x.crowd(k, 0), m.crowd(k, 0));
-                due("crowd " + k + " 1", x.crowd(k, 1), m.crowd(k, 1));
-                due("crowd " + k + " -1", x.crowd(k, -1), m.crowd(k, -1));
-                break;
-            case 20:
-            case 21:
-                for (int i = -2; i < 4; i++) {
-                    due("setOut " + b + " " + i, x.setOut(b, i), m.setOut(b, i));
-                }
-                break;
-            case 22:
-                int left = random.nextInt(4) == 0 ? near(0, 4095) : m.noRefusal(() -> m.left(b));
-                for (int i = -1; i < 5; i++) {
-                    due("who " + left + " " + i, x.who(left, i), m.who(left, i));
-                }
-                break;
-            case 23:
-                int taken = random.nextInt(4) == 0 ? near(0, 4095) : m.noRefusal(() -> m.taken(b, a));
-                for (int i = -1; i < 3; i++) {
-                    due("kinds " + b + " " + a + " " + taken + " " + i, x.kinds(b, a, taken, i), m.kinds(b, a, taken, i));
-                }
-                break;
-            case 24:
-                int place = near(0, 11);
-                due("odds " + place, x.odds(place), m.odds(place));
-                break;
-            case 25:
-                due("likely " + a, x.likely(a), m.likely(a));
-                break;
-            case 26:
-                int least = near(0, 8);
-                due("gladOdds " + least, x.gladOdds(least), m.gladOdds(least));
-                break;
-            case 27:
-                due("meanLeft", x.meanLeft(), m.meanLeft());
-                break;
-            case 28:
-                int sort = near(0, 7);
-                for (int i = -1; i < 4; i++) {
-                    due("sorts " + sort + " " + i, x.sorts(sort, i), m.sorts(sort, i));
-                }
-                break;
-            default:
-                askMore(which, a, b);
+            case 14 -> call("left", b);
+            case 15 -> call("taken", b, a);
+            case 16 -> call("glad", b, near(0, 1));
+            case 17 -> eachWhat("order", 7, b);
+            case 18 -> eachWhat("away", 1, a);
+            case 19 -> eachWhat("crowd", 1, near(0, size()));
+            case 20, 21 -> {
+                call("setOut", b, -2);
+                eachWhat("setOut", 2, b);
+            }
+            case 22 -> eachWhat("who", 3, random.nextInt(4) == 0 ? near(0, 4095) : m.noRefusal(() -> m.left(b)));
+            case 23 -> eachWhat("kinds", 1, b, a, random.nextInt(4) == 0 ? near(0, 4095) : m.noRefusal(() -> m.taken(b, a)));
+            case 24 -> call("odds", near(0, 11));
+            case 25 -> call("likely", a);
+            case 26 -> call("gladOdds", near(0, 8));
+            case 27 -> call("meanLeft");
+            case 28 -> eachWhat("sorts", 2, near(0, 7));
+            case 29 -> eachWhat("rare", 1);
+            default -> eachWhat("first", 2);
         }
     }
 
-    private void askMore(int which, int a, int b) {
-        int other = one();
+    private void askMore(int which) {
+        int a = one();
+        int b = many();
         switch (which) {
-            case 29:
-                for (int i = -1; i < 3; i++) {
-                    due("rare " + i, x.rare(i), m.rare(i));
-                }
-                break;
-            case 30:
-                for (int i = -1; i < 4; i++) {
-                    due("first " + i, x.first(i), m.first(i));
-                }
-                break;
-            case 31:
-                due("places", x.places(), m.places());
-                break;
-            case 32:
-                due("gladOnes " + b, x.gladOnes(b), m.gladOnes(b));
-                break;
-            case 33:
-                due("empty " + b, x.empty(b), m.empty(b));
-                break;
-            case 34:
-                due("without " + a, x.without(a), m.without(a));
-                break;
-            case 35:
-                due("exchanged " + a + " " + other, x.exchanged(a, other), m.exchanged(a, other));
-                break;
-            case 36:
-                due("bestPair", x.bestPair(), m.bestPair());
-                break;
-            case 37:
-                due("oldest " + a, x.oldest(a), m.oldest(a));
-                break;
-            case 38:
-                int then = many();
-                due("twice " + b + " " + then, x.twice(b, then), m.twice(b, then));
-                break;
-            case 39:
-                due("unlike " + b, x.unlike(b), m.unlike(b));
-                break;
-            case 40:
-                due("next " + a, x.next(a), m.next(a));
-                break;
-            case 41:
-                due("swapped", x.swapped(), m.swapped());
+            case 31 -> call("places");
+            case 32 -> call("gladOnes", b);
+            case 33 -> call("empty", b);
+            case 34 -> call("without", a);
+            case 35 -> call("exchanged", a, one());
+            case 36 -> call("bestPair");
+            case 37 -> call("oldest", a);
+            case 38 -> call("twice", b, many());
+            case 39 -> call("unlike", b);
+            case 40 -> call("next", a);
+            case 41 -> {
+                call("swapped");
                 if (random.nextBoolean()) {
-                    due("swap", x.swap(), m.swap());
+                    call("swap");
                 }
-                break;
-            case 42:
-                judged(b);
-                break;
-            case 43:
-                due("evening " + b, x.evening(b), m.evening(b));
-                break;
-            case 44:
-                int n = random.nextInt(3) == 0 ? near(1, 40) : 1;
-                due("christmases " + n, x.christmases(n), m.christmases(n));
-                break;
-            case 45:
-                int seed = random.nextInt();
-                due("seed " + seed, x.seed(seed), m.seed(seed));
-                break;
-            case 46:
-                due("image", x.image(), m.image());
-                break;
-            default:
-                due("back", x.back(), m.back());
+            }
+            case 42 -> judged(b);
+            case 43 -> call("evening", b);
+            case 44 -> call("christmases", random.nextInt(3) == 0 ? near(1, 40) : 1);
+            case 45 -> call("seed", random.nextInt());
+            case 46 -> call("image");
+            default -> call("back");
         }
     }
 
     /** A told evening that is right, or nearly so, on a shelf. */
     private void judged(int set) {
         int s = random.nextInt(8);
-        int size = random.nextInt(41);
-        int sort = random.nextInt(4);
-        due("row " + s + " " + sort + " " + size, x.row(s, sort, size), m.row(s, sort, size));
-        int all = set & (1 << m.world.people.size()) - 1;
+        call("row", s, random.nextInt(4), random.nextInt(41));
+        int all = set & (1 << size()) - 1;
         PlainModel.Night night = new PlainModel.Night(m.world, all, m.world.window);
         int at = 0;
         for (int who : night.turn) {
-            putElement(s, at++, who);
-            putElement(s, at++, night.takes.get(who).isEmpty() ? -1 : night.takes.get(who).get(0));
+            call("set", s, at++, (long) who);
+            call("set", s, at++, night.takes.get(who).isEmpty() ? -1L : night.takes.get(who).get(0));
         }
         if (random.nextBoolean()) {
-            putElement(s, random.nextInt(at + 1), random.nextInt(14) - 1);
+            call("set", s, random.nextInt(at + 1), random.nextInt(14) - 1L);
         }
-        int n = random.nextInt(3) == 0 ? near(0, 20) : at / 2;
-        due("judge " + s + " " + n, x.judge(s, n), m.judge(s, n));
-    }
-
-    private void putElement(int s, int i, long v) {
-        due("set " + s + " " + i + " " + v, x.set(s, i, v), m.set(s, i, v));
+        call("judge", s, random.nextInt(3) == 0 ? near(0, 20) : at / 2);
     }
 }

@@ -582,13 +582,13 @@ public final class TruthEdgesTest {
         Sentence s = Sentence.of(48, "how many THINGS were taken in all");
         SeenInOrderOfAge once = comers();
         int things = 0;
-        for (int i = 0; i < 40; i++) {
-            things += once.christmases(1);
+        for (int i = 0; i < 20; i++) {
+            things += once.christmases(2);
         }
         SeenInOrderOfAge forty = comers();
         s.is("forty", forty.christmases(40), things);
         s.is("EVENINGS", forty.status(3), 40);
-        s.same("forty times one", Story.of(forty), Story.of(once));
+        s.same("twenty times two", Story.of(forty), Story.of(once));
         SeenInOrderOfAge two = comers();
         SeenInOrderOfAge apart = comers();
         int first = apart.christmases(1);
